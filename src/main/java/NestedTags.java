@@ -491,8 +491,8 @@ public final class NestedTags {
             return end - begin == word.length() && standsAt(word, begin);
         }
 
-        boolean sameBytes(int begin, int otherBegin, int count) {
-            for (int i = 0; i < count; i++) {
+        boolean sameBytes(int begin, int otherBegin, int many) {
+            for (int i = 0; i < many; i++) {
                 if (byteAt(begin + i) != byteAt(otherBegin + i)) {
                     return false;
                 }

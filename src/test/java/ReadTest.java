@@ -318,7 +318,7 @@ public final class ReadTest {
             Check.fault("<a><?" + name + "?></a>", 11, 5, 1);
             Check.fault("<a/> <?" + name + "?>", 11, 7, 1);
         }
-        for (String name : new String[] {"xm", "xmll", "xml-a", "xml.", "xml:", "xml1", "_xml", "xnl", "lmx", "yml", "xmk"}) {
+        for (String name : new String[] {"xm", "xmll", "xml-a", "xml.", "xml:", "xml1", "_xml", "xnl", "xll", "lmx", "yml", "xmk"}) {
             Check.whole("<?" + name + "?><a/>", 2);
         }
         Check.whole("<xml xml=''/>", 2);
@@ -365,6 +365,8 @@ public final class ReadTest {
         Check.fault(FULL + "<![CDATA[]]>", 15, end, 150);
         Check.fault(NEARLY_FULL + "&lt;xy<", 15, end + 3, 150);
         Check.fault(NEARLY_FULL + "&lt;xy&", 15, end + 3, 150);
+        Check.fault(NEARLY_FULL + "&lt;xy\u0001", 15, end + 3, 150);
+        syntax(NEARLY_FULL + "&lt;]]>", end + 5, 150);
         Check.fault(NEARLY_FULL + "</a><?p?>", 15, end + 3, 150);
         // Before its end, a piece is not one too many.
         syntax(FULL + "</a", end + 3, 150);
