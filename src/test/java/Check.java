@@ -1,16 +1,57 @@
+import java.lang.reflect.Method;
+import java.lang.reflect.Modifier;
+
 /** What the tests share: texts put as bytes, and answers compared with the ones that are due. */
 final class Check {
     private static int asked = 0;
     private static int wrong = 0;
+    private static String running = "";
 
     private Check() {
+    }
+
+    /**
+     * Runs each test of the class: its static methods without parameters that are not private. They are found, not
+     * listed, so that none is forgotten; one that asks nothing, or throws, is wrong.
+     */
+    static void run(Class<?> tests) {
+        int many = 0;
+        for (Method test : tests.getDeclaredMethods()) {
+            boolean isTest = Modifier.isStatic(test.getModifiers()) && !Modifier.isPrivate(test.getModifiers())
+                && !test.isSynthetic() && test.getParameterCount() == 0;
+            if (isTest) {
+                many++;
+                run(test);
+            }
+        }
+        System.out.println(many + " tests, " + asked + " answers, " + wrong + " of them wrong");
+        if (wrong != 0 || many == 0) {
+            System.exit(1);
+        }
+    }
+
+    private static void run(Method test) {
+        running = test.getName();
+        int askedBefore = asked;
+        try {
+            test.invoke(null);
+        } catch (ReflectiveOperationException e) {
+            say("it threw " + (e.getCause() == null ? e : e.getCause()));
+        }
+        if (asked == askedBefore) {
+            say("it asked nothing");
+        }
+    }
+
+    private static void say(String what) {
+        wrong++;
+        System.out.println(running + ": " + what);
     }
 
     static void due(String what, long got, long want) {
         asked++;
         if (got != want) {
-            wrong++;
-            System.out.println(what + " answered " + got + ", due is " + want);
+            say(what + " answered " + got + ", due is " + want);
         }
     }
 
@@ -21,15 +62,7 @@ final class Check {
     static void due(String what, String got, String want) {
         asked++;
         if (!got.equals(want)) {
-            wrong++;
-            System.out.println(what + " answered " + got + ", due is " + want);
-        }
-    }
-
-    static void end() {
-        System.out.println(asked + " answers, " + wrong + " of them wrong");
-        if (wrong != 0 || asked == 0) {
-            System.exit(1);
+            say(what + " answered " + got + ", due is " + want);
         }
     }
 
@@ -60,6 +93,10 @@ final class Check {
         due("read of " + name, x.read(), -1 - fault);
         due("place in " + name, x.place(), place);
         due("count(0) of " + name, x.count(0), pieces);
+    }
+
+    static void syntax(String text, int place, int pieces) {
+        fault(text, 2, place, pieces);
     }
 
     /** The text is read without fault, and has this many pieces. */

@@ -8,8 +8,14 @@ import java.util.TreeSet;
 /** The class has the document's public face, and no other. */
 public final class FaceTest {
     public static void main(String[] args) {
-        Check.due("modifiers", Modifier.toString(NestedTags.class.getModifiers()), "public final");
+        Check.run(FaceTest.class);
+    }
 
+    static void theClassIsPublicAndFinal() {
+        Check.due("modifiers", Modifier.toString(NestedTags.class.getModifiers()), "public final");
+    }
+
+    static void theFaceIsTheDocumentsAndNoOther() {
         Set<String> open = new TreeSet<>();
         for (Constructor<?> c : NestedTags.class.getDeclaredConstructors()) {
             addOpen(open, c.getModifiers(), c.toString());
@@ -30,7 +36,24 @@ public final class FaceTest {
         face.add("public int NestedTags.byteOf(int)");
         face.add("public int NestedTags.count(int)");
         Check.due("the face", open.toString(), face.toString());
-        Check.end();
+    }
+
+    static void noPrivateMethodBearsTheNameOfAPublicOne() {
+        Set<String> open = new TreeSet<>();
+        Set<String> closed = new TreeSet<>();
+        for (Method m : NestedTags.class.getDeclaredMethods()) {
+            (Modifier.isPublic(m.getModifiers()) ? open : closed).add(m.getName());
+        }
+        closed.retainAll(open);
+        Check.due("the names that both bear", closed.toString(), "[]");
+    }
+
+    static void theClassesInsideArePrivateAndStatic() {
+        for (Class<?> inside : NestedTags.class.getDeclaredClasses()) {
+            int modifiers = inside.getModifiers();
+            Check.due(inside.getName() + " is static", Modifier.isStatic(modifiers), true);
+            Check.due(inside.getName() + " is private", Modifier.isPrivate(modifiers), true);
+        }
     }
 
     private static void addOpen(Set<String> open, int modifiers, String name) {

@@ -12,6 +12,10 @@ public final class ManyTextsTest {
     private final int[] faults = new int[16];
 
     public static void main(String[] args) {
+        Check.run(ManyTextsTest.class);
+    }
+
+    static void madeTexts() {
         ManyTextsTest test = new ManyTextsTest();
         for (int i = 0; i < 40_000; i++) {
             test.compare(test.anyText(i));
@@ -19,7 +23,6 @@ public final class ManyTextsTest {
         for (int fault : new int[] {0, 2, 3, 4, 5, 8, 11, 15}) {
             Check.due("that some texts have fault " + fault, test.faults[fault] >= 40, true);
         }
-        Check.end();
     }
 
     private String anyText(int i) {

@@ -1,69 +1,96 @@
-/** Promise 5: the pieces, in the order in which they end, with kind, begin, end and depth. */
+/** Promise 5: piece. What the pieces are stands in the tests of the Terms. */
 public final class PieceTest {
     public static void main(String[] args) {
-        everyKind();
-        depths();
-        charactersStandTogether();
-        piecesUpToAFault();
-        wrongArguments();
-        theLastTextCounts();
-        Check.end();
+        Check.run(PieceTest.class);
     }
 
-    private static void everyKind() {
-        Check.pieces("<a/>", "2:0-4@0");
-        Check.pieces("<a></a>", "0:0-3@0 1:3-7@1");
-        Check.pieces(" <a\n> </a\t> ", "0:1-5@0 4:5-6@1 1:6-11@1");
-        Check.pieces("<a b='c'/>", "3:3-8@0 2:0-10@0");
-        Check.pieces("<a b = \"&lt;'\" c=''>", "3:3-14@0 3:15-19@0 0:0-20@0");
-        Check.pieces("<a>&amp;&#9;</a>", "0:0-3@0 5:3-8@1 5:8-12@1 1:12-16@1");
-        Check.pieces("<a><![CDATA[]]></a>", "0:0-3@0 6:3-15@1 1:15-19@1");
-        Check.pieces("<!----><a><!-- - --></a><!---->", "7:0-7@0 0:7-10@0 7:10-20@1 1:20-24@1 7:24-31@0");
-        Check.pieces("<?p?><a><?q x?></a><?r ?>", "8:0-5@0 0:5-8@0 8:8-15@1 1:15-19@1 8:19-25@0");
+    static void whatOfAPiece() {
+        NestedTags x = Check.read("<a>xyz</a>");
+        Check.due("its kind", x.piece(1, 0), 4);
+        Check.due("where it begins", x.piece(1, 1), 3);
+        Check.due("where it ends", x.piece(1, 2), 6);
+        Check.due("its depth", x.piece(1, 3), 1);
     }
 
-    private static void depths() {
-        Check.pieces("<a><b c=''><d e=''/>f</b></a>",
-            "0:0-3@0 3:6-10@1 0:3-11@1 3:14-18@2 2:11-20@2 4:20-21@2 1:21-25@2 1:25-29@1");
-    }
-
-    private static void charactersStandTogether() {
-        Check.pieces("<a>x\n\ty</a>", "0:0-3@0 4:3-7@1 1:7-11@1");
-        Check.pieces("<a>x&lt;y<b/>z</a>", "0:0-3@0 4:3-4@1 5:4-8@1 4:8-9@1 2:9-13@1 4:13-14@1 1:14-18@1");
-        Check.pieces("<a>]]<!---->></a>", "0:0-3@0 4:3-5@1 7:5-12@1 4:12-13@1 1:13-17@1");
-    }
-
-    private static void piecesUpToAFault() {
-        Check.pieces("<a>xyz", "0:0-3@0");
-        Check.pieces("<a>xyz<", "0:0-3@0 4:3-6@1");
-        Check.pieces("<a>xyz&", "0:0-3@0 4:3-6@1");
-        Check.pieces("<a>xyz\u0001</a>", "0:0-3@0 4:3-6@1");
-        Check.pieces("<a>x]]></a>", "0:0-3@0");
-        Check.pieces("<a b='' c='", "3:3-7@0");
-        Check.pieces("<a b='' b=''", "3:3-7@0");
-        Check.pieces("<a>&foo;", "0:0-3@0");
-        Check.pieces("<a></a", "0:0-3@0");
-        Check.pieces("<a/", "");
-        Check.pieces("<a/><!---->x", "2:0-4@0 7:4-11@0");
-    }
-
-    private static void wrongArguments() {
-        NestedTags x = Check.read("<a/>");
-        for (int what : new int[] {4, 5, -1, Integer.MAX_VALUE, Integer.MIN_VALUE}) {
-            Check.due("piece(0, " + what + ")", x.piece(0, what), -1);
-        }
-        for (int k : new int[] {1, 149, 150, 151, -1, Integer.MAX_VALUE, Integer.MIN_VALUE}) {
-            for (int what = 0; what <= 3; what++) {
+    static void anotherWhat() {
+        NestedTags x = Check.read("<a>xyz</a>");
+        for (int k = 0; k < 3; k++) {
+            for (int what : new int[] {4, 5, -1, -4, 256, Integer.MAX_VALUE, Integer.MIN_VALUE}) {
                 Check.due("piece(" + k + ", " + what + ")", x.piece(k, what), -1);
             }
         }
     }
 
-    private static void theLastTextCounts() {
+    static void theFirstPieceIsPiece0() {
+        NestedTags x = Check.read("<!----><a/>");
+        Check.due("piece(0, 0)", x.piece(0, 0), 7);
+        Check.due("piece(0, 2)", x.piece(0, 2), 7);
+    }
+
+    static void theLastPiece() {
+        NestedTags x = Check.read("<!----><a/>");
+        Check.due("piece(1, 0)", x.piece(1, 0), 2);
+        noPiece(x, 2);
+    }
+
+    static void piece149IsTheLastOf150() {
+        NestedTags x = Check.read("<a>" + "x<b/>".repeat(74) + "</a>");
+        Check.due("piece(149, 0)", x.piece(149, 0), 1);
+        Check.due("piece(149, 1)", x.piece(149, 1), 373);
+        Check.due("piece(149, 2)", x.piece(149, 2), 377);
+        Check.due("piece(149, 3)", x.piece(149, 3), 1);
+        noPiece(x, 150);
+        noPiece(x, 151);
+    }
+
+    static void thePieceThatIsOneTooManyIsNone() {
+        NestedTags x = Check.read("<a>" + "x<b/>".repeat(74) + "x</a>");
+        Check.due("piece(149, 0)", x.piece(149, 0), 4);
+        noPiece(x, 150);
+    }
+
+    static void noPieceBeforeTheFirst() {
+        NestedTags x = Check.read("<a/>");
+        noPiece(x, -1);
+        noPiece(x, -150);
+        noPiece(x, Integer.MIN_VALUE);
+    }
+
+    static void noPieceFarBehindTheLast() {
+        NestedTags x = Check.read("<a/>");
+        for (int k : new int[] {2, 149, 150, 256, 65536, Integer.MAX_VALUE}) {
+            noPiece(x, k);
+        }
+    }
+
+    static void noPieceBeforeAReading() {
+        NestedTags x = new NestedTags();
+        noPiece(x, 0);
+        Check.putText(x, "<a/>");
+        noPiece(x, 0);
+    }
+
+    static void noPieceAtOrBehindAFault() {
+        NestedTags x = Check.read("<a>&foo;<b/></a>");
+        Check.due("piece(0, 0)", x.piece(0, 0), 0);
+        noPiece(x, 1);
+    }
+
+    static void noPieceOfAnEarlierText() {
         NestedTags x = Check.read("<a b='' c=''>d</a>");
         Check.putText(x, "<!----><a/>");
+        Check.due("piece(4, 0) before the reading", x.piece(4, 0), 1);
         x.read();
-        Check.due("pieces of the next text", Check.piecesOf(x), "7:0-7@0 2:7-11@0");
-        Check.due("piece(2, 0)", x.piece(2, 0), -1);
+        Check.due("pieces", Check.piecesOf(x), "7:0-7@0 2:7-11@0");
+        noPiece(x, 2);
+        noPiece(x, 4);
+        x.read();
+        noPiece(x, 0);
+    }
+
+    private static void noPiece(NestedTags x, int k) {
+        for (int what = -1; what <= 4; what++) {
+            Check.due("piece(" + k + ", " + what + ")", x.piece(k, what), -1);
+        }
     }
 }
