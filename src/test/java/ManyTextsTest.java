@@ -6,6 +6,14 @@ public final class ManyTextsTest {
         "<", ">", "/", "/>", "</", "<a", "<b", "</a>", "</b>", "<a>", "<b/>", " ", "\n", "=", "'", "\"", " c=''", " d=\"x\"",
         "&", "&lt;", "&foo;", "&#", "&#65;", "&#x4a;", "&#1;", "&#x;", ";", "#", "x", "xml", "<?", "?>", "?", "<?p", "<?XML",
         "<!--", "-->", "--", "-", "<![CDATA[", "]]>", "]", "<!", "!", "[", "\u0000", "\u007f", "\u00ff", "0", ".", ":"};
+    /** A beginning for each place in a text, and for each limit that the next bits may come to. */
+    private static final String[] BEGINNINGS = {
+        "", "<a", "<a ", "<a c=''", "<a b='", "<a>", "<a>x", "<a><b>", "<a/>", "<!--", "<?p ", "<a><![CDATA[",
+        "<a>".repeat(19), "<a>".repeat(20),
+        "<a a='' b='' e='' f='' g='' h='' i=''", "<a a='' b='' c='' e='' f='' g='' h='' i=''"};
+    private static final String NEARLY_FULL = "<a>" + "x<b/>".repeat(74);
+    private static final String[] FULL_BEGINNINGS = {
+        NEARLY_FULL, NEARLY_FULL + "x", NEARLY_FULL + "&lt;", NEARLY_FULL + "</a>", NEARLY_FULL + "<c d='"};
     private static final String[] NAMES = {"a", "b", "ab", "A", ":", "_x-1.", "xml"};
 
     private final Random random = new Random(20261115);
@@ -22,6 +30,27 @@ public final class ManyTextsTest {
         }
         for (int fault : new int[] {0, 2, 3, 4, 5, 8, 11, 15}) {
             Check.due("that some texts have fault " + fault, test.faults[fault] >= 40, true);
+        }
+    }
+
+    static void eachTwoBitsBehindEachBeginning() {
+        ManyTextsTest test = new ManyTextsTest();
+        for (String beginning : BEGINNINGS) {
+            for (String first : BITS) {
+                for (String second : BITS) {
+                    test.compare(beginning + first + second);
+                }
+            }
+        }
+    }
+
+    static void eachBitBehindEachBeginningThatIsNearlyFull() {
+        ManyTextsTest test = new ManyTextsTest();
+        for (String beginning : FULL_BEGINNINGS) {
+            for (String bit : BITS) {
+                test.compare(beginning + bit);
+                test.compare(beginning + bit + ">");
+            }
         }
     }
 

@@ -1,3 +1,6 @@
+import java.lang.reflect.Field;
+import java.lang.reflect.Modifier;
+
 /** Terms: all memory is the class's own, and a refused call changes nothing; and how long an object is used. */
 public final class MemoryTermsTest {
     public static void main(String[] args) {
@@ -33,6 +36,30 @@ public final class MemoryTermsTest {
         Check.due("place in the second", second.place(), 5);
         Check.due("pieces of the first", Check.piecesOf(first), "0:0-3@0 3:6-10@1 2:3-12@1 1:12-16@1");
         Check.due("pieces of the second", Check.piecesOf(second), "0:0-3@0");
+    }
+
+    static void noFieldIsSharedOrOfAnotherClass() {
+        fieldsOf(NestedTags.class);
+        for (Class<?> inside : NestedTags.class.getDeclaredClasses()) {
+            fieldsOf(inside);
+        }
+    }
+
+    private static void fieldsOf(Class<?> owner) {
+        for (Field field : owner.getDeclaredFields()) {
+            int modifiers = field.getModifiers();
+            Class<?> type = field.getType();
+            Class<?> element = type.isArray() ? type.getComponentType() : type;
+            if (field.isSynthetic()) {
+                continue;
+            }
+            if (Modifier.isStatic(modifiers)) {
+                Check.due(field + " is a constant", Modifier.isFinal(modifiers) && type.isPrimitive(), true);
+            } else {
+                boolean own = element.isPrimitive() || element.getDeclaringClass() == NestedTags.class;
+                Check.due(field + " is the class's own", own, true);
+            }
+        }
     }
 
     // A call that is refused changes nothing.

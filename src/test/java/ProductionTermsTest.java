@@ -4,6 +4,56 @@ public final class ProductionTermsTest {
         Check.run(ProductionTermsTest.class);
     }
 
+    // PRODUCTIONS ('' are the characters themselves; S one or more blanks, S? any number; [ ] may be left out; * any
+    // number of; | or)
+
+    static void quotedSignsAreTheCharactersThemselves() {
+        Check.whole("<a><![CDATA[]]></a>", 3);
+        Check.syntax("<a><![Cdata[]]></a>", 7, 1);
+        Check.whole("<a>&#x41;</a>", 3);
+        Check.syntax("<a>&#X41;</a>", 5, 1);
+        Check.syntax("<a b=''\\>", 7, 1);
+        Check.syntax("<!==a==>", 2, 0);
+    }
+
+    static void blanksThatMustBeAreOneOrMore() {
+        for (String blanks : new String[] {" ", "\t", "\n\r", " ".repeat(300)}) {
+            Check.whole("<a" + blanks + "b=''/>", 2);
+            Check.whole("<?p" + blanks + "q?><a/>", 2);
+        }
+        Check.syntax("<a b=''c=''/>", 7, 1);
+        Check.syntax("<?p\"?><a/>", 3, 0);
+    }
+
+    static void blanksThatMayBeAreAnyNumber() {
+        for (String blanks : new String[] {"", " ", "\r\n", " ".repeat(100)}) {
+            Check.whole("<a b" + blanks + "=''/>", 2);
+            Check.whole("<a b=" + blanks + "''/>", 2);
+            Check.whole("<a b=''" + blanks + "/>", 2);
+            Check.whole("<a" + blanks + "></a" + blanks + ">", 2);
+        }
+    }
+
+    static void bracketedPartsMayBeLeftOut() {
+        Check.whole("<?p?><a/>", 2);
+        Check.whole("<?p q?><a/>", 2);
+    }
+
+    static void starredPartsAreAnyNumber() {
+        for (int many = 0; many <= 8; many++) {
+            Check.whole("<?p?>".repeat(many) + "<a/>" + "<!---->".repeat(many), 1 + 2 * many);
+            Check.whole("<a>" + "<b/>".repeat(many) + "</a>", 2 + many);
+            Check.whole("<a" + " a='' b='' c='' d='' e='' f='' g='' h=''".substring(0, 5 * many) + "/>", 1 + many);
+        }
+    }
+
+    static void eitherOfTwoPartsMayStandButNotBoth() {
+        Check.whole("<a/>", 1);
+        Check.whole("<a></a>", 2);
+        Check.syntax("<a/></a>", 5, 1);
+        Check.syntax("<a>&#65x41;</a>", 7, 1);
+    }
+
     // text: misc* element misc*.
 
     static void aTextWithoutBytesHasNoElement() {
@@ -33,6 +83,8 @@ public final class ProductionTermsTest {
         Check.syntax("<a/></a>", 5, 1);
         Check.syntax("<a></a></a>", 8, 2);
     }
+
+    // misc: comment | instruction | S.
 
     static void aTextMayHaveAnyMiscRoundItsElement() {
         Check.whole(" \t\r\n<a/> \t\r\n", 1);
